@@ -47,7 +47,8 @@ public final class SleepRope {
     private static final int DREAM_BITS = 7;
 
     // The OWN WORDS, in the order of the numbers below; the first seven are also what a LAW may ask.
-    private static final String OWN_WORDS = "force weight depth place minute beside felt boy odds pulls snores ghost slack at dream tug lasts passes pass deep when or and not all min max";
+    private static final String OWN_WORDS =
+        "force weight depth place minute beside felt boy odds pulls snores ghost slack at dream tug lasts passes pass deep when or and not all min max";
     private static final int OWN_COUNT = 27;
     private static final int ASKED = 7;
     private static final int FORCE = 0;
@@ -974,9 +975,9 @@ public final class SleepRope {
             length = 0;
         }
 
-        void put(int code) {
+        void put(int step) {
             if (length < TAPE) {
-                this.code[length] = code;
+                code[length] = step;
                 length++;
             }
         }
@@ -1015,7 +1016,7 @@ public final class SleepRope {
 
         private int run(int from, int to) {
             int top = 0;
-            for (int i = from; i < to; i++) {
+            for (int i = from; i < to && i < TAPE; i++) {
                 int it = code[i];
                 if (it > DO_NOT) {
                     if (top >= STACK) {
@@ -1656,6 +1657,9 @@ public final class SleepRope {
         void goes(Dorm dorm, Rope rope, int from, int force) {
             Arrays.fill(came, 0);
             woken = 0;
+            if (from < 0 || from >= rope.count) {
+                return;
+            }
             int left = force;
             for (int place = from + 1; place < rope.count && rope.tied[place - 1]; place++) {
                 left -= rope.slack[place - 1];

@@ -357,6 +357,85 @@ public final class ActsTest {
         tug(x, 1, 0, 2, 0, 0, 1);
     }
 
+    private static void allComesBack() {
+        SleepRope x = Due.dorm(THREE + D);
+        x.dreams(1, 0);
+        x.go(1);
+        int[][] was = new int[3][13];
+        for (int boy = 0; boy < 3; boy++) {
+            for (int what = 0; what <= 12; what++) {
+                was[boy][what] = x.boy(boy, what);
+            }
+        }
+        x.dreams(2, 1);
+        x.wake(0, false);
+        x.dreams(0, 1);
+        x.go(5);
+        x.swap(0, 1);
+        x.dreams(1, 0);
+        for (int left = x.has(9); left > 2; left--) {
+            x.undo();
+        }
+        for (int boy = 0; boy < 3; boy++) {
+            for (int what = 0; what <= 12; what++) {
+                Due.is("boy " + boy + " " + what + " again", x.boy(boy, what), was[boy][what]);
+            }
+        }
+    }
+
+    // b catches c in minute 0, a catches b in minute 7: both ROOTS are as they were after the ACTS between are undone.
+    private static void rootsComeBack() {
+        SleepRope x = Due.dorm(THREE + D);
+        x.go(7);
+        x.dreams(1, 0);
+        Due.is("c is caught", x.boy(2, 9), 0);
+        x.wake(2, true);
+        x.wake(2, false);
+        x.go(9);
+        x.swap(0, 1);
+        x.wake(0, false);
+        x.dreams(0, 0);
+        Due.is("c is caught by a", x.boy(2, 9), 0);
+        for (int k = 0; k < 6; k++) {
+            x.undo();
+        }
+        Due.is("minute 7", x.has(4), 7);
+        Due.is("c is caught by b", x.boy(2, 9), 0);
+        x.go(1);
+        tug(x, 1, 7, 2, 0, 7, 1);
+    }
+
+    // Whom a DRAW lets begin is the ROOT himself, though he is CAUGHT at that time.
+    private static void drawnThoughCaught() {
+        SleepRope x = Due.dorm("boy a weight 1 depth 99 odds 100 pulls 0;boy b weight 1 depth 99 odds 0 pulls 0;"
+            + "boy c weight 1 depth 99 odds 0 pulls 0;dream d tug 20 lasts 9 passes 1 odds 1;");
+        x.wake(0, true);
+        x.dreams(2, 0);
+        x.wake(0, false);
+        // b, caught by c, begins in the MINUTE and catches a, who lies below: a draws.
+        Due.is("b, and a by a draw", x.go(1), 2);
+        tug(x, 1, 0, 1, 0, 0, 2);
+        tug(x, 2, 0, 0, 0, 0, 0);
+        Due.is("a is caught no more", x.has(7), 0);
+    }
+
+    private static void leastForces() {
+        SleepRope x = Due.dorm("boy a weight 1 depth 99 odds 0 pulls 0;boy b weight 1 depth 99 odds 0 pulls 0;"
+            + "boy c weight 1 depth 99 odds 0 pulls 0;dream d tug 2 lasts 9 passes 1 odds 1;");
+        x.dreams(0, 0);
+        Due.is("c felt 1", x.boy(2, 12), 1);
+        Due.is("c is caught by 1", x.boy(2, 9), 0);
+        x.undo();
+        x.dreams(2, 0);
+        Due.is("a felt 1", x.boy(0, 12), 1);
+        x.slack(0, 1);
+        x.undo();
+        x.undo();
+        x.slack(0, 1);
+        x.dreams(2, 0);
+        Due.is("slack takes it", x.boy(0, 10), 0);
+    }
+
     private static void seeds() {
         SleepRope x = new SleepRope();
         Due.is("seed 0", x.seed(0), true);
@@ -388,6 +467,10 @@ public final class ActsTest {
         knots();
         swaps();
         undo();
+        allComesBack();
+        rootsComeBack();
+        drawnThoughCaught();
+        leastForces();
         seeds();
         Due.end();
     }

@@ -199,7 +199,7 @@ public final class AgainstModel {
 
     // A number that may be, or a little beside.
     private static int near(int most) {
-        return odds(4) ? from(-3, most + 30) : from(-1, most);
+        return odds(4) ? from(-3, most + 30) : odds(70) ? any(Math.max(1, model.has(0))) : from(-1, most);
     }
 
     private static int force() {

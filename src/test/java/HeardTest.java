@@ -70,6 +70,46 @@ public final class HeardTest {
         Due.is("not even a", y.pulled(0, 0), -1);
     }
 
+    private static void oneBoy() {
+        SleepRope x = Due.dorm(boy("a", 1, 9, 1, "") + "dream d tug 20 lasts 3 passes 13 odds 1;");
+        Due.is("hears nothing", Due.hear(x, 0), true);
+        Due.is("odds 1 together", x.pulled(0, 0), 1000);
+        Due.is("a bed", x.beds(1, -1), 1);
+        Due.is("his bed", x.beds(1, 0), 0);
+        Due.is("he walks alone", x.walk(0), 0);
+        Due.is("he is a piece", x.has(10), 1);
+        Due.is("an image of him", x.image(), 10);
+    }
+
+    private static void twelve() {
+        StringBuilder s = new StringBuilder(D);
+        for (int i = 0; i < 12; i++) {
+            s.append(boy("" + (char) ('p' + i - 2), i < 2 || i > 9 ? 9 : 1, 9, 0, ""));
+        }
+        SleepRope x = Due.dorm(s.toString());
+        // 9 9 1 1 1 1 1 1 1 1 9 9
+        Due.is("9, 9, 8, 9, 9", x.cut(4, -1), 9);
+        Due.is("the first", x.cut(4, 0), 0);
+        Due.is("the second", x.cut(4, 1), 1);
+        Due.is("the third", x.cut(4, 2), 9);
+        Due.is("the last", x.cut(4, 3), 10);
+        Due.is("once", x.cut(1, -1), 22);
+        Due.is("in the middle", x.cut(1, 0), 5);
+        for (int k = 0; k < 10; k++) {
+            x.tie(k, false);
+        }
+        Due.is("the last knot", x.cut(1, 0), 10);
+        Due.is("9 is left", x.cut(1, -1), 9);
+        Due.is("no second", x.cut(1, 1), -1);
+        Due.is("an image of all", x.image(), 109);
+        Due.is("its last knot", x.octet(106), 1);
+        Due.is("the one ahead", x.octet(104), 0);
+        int[] image = Due.image(x);
+        x.tie(10, false);
+        Due.is("on", Due.on(x, image), true);
+        Due.is("tied again", x.has(3), 1);
+    }
+
     private static void heardStays() {
         SleepRope x = Due.dorm(boy("a", 1, 9, 5, "") + boy("b", 1, 99, 5, "") + D);
         x.slack(0, 1);
@@ -129,7 +169,12 @@ public final class HeardTest {
     private static void walk() {
         SleepRope x = Due.dorm(boy("a", 9, 9, 5, "") + boy("b", 5, 9, 5, "") + boy("c", 4, 9, 5, "ghost")
             + boy("d", 6, 9, 5, "") + boy("e", 1, 9, 5, "") + "slack 1 at 1;");
-        // c: 12; up 12 - 6 = 6, 5; down 12 - 1 - 5 = 6, less than 9.
+        // a: 27 - 5 - 1 - 4 - 6 = 11, 10. c: 12; up 12 - 6 = 6, 5; down 12 - 1 - 5 = 6, less than 9.
+        Due.is("a takes all", x.walk(0), 30);
+        Due.is("d takes c, b, e, not a", x.walk(3), 4 + 2 + 16);
+        x.slack(1, 0);
+        Due.is("d takes a, too", x.walk(3), 4 + 2 + 16 + 1);
+        x.slack(1, 1);
         Due.is("c takes d, e, b", x.walk(2), 8 + 16 + 2);
         x.slack(2, 6);
         Due.is("just enough", x.walk(2), 8 + 2);
@@ -359,6 +404,15 @@ public final class HeardTest {
         changed(x, image, true, 24, 99);
         changed(x, image, false, 24, 100);
         changed(x, image, false, 26, 100);
+        SleepRope six = Due.dorm(boy("a", 2, 99, 0, "") + D + D.replace("d tug", "f tug").replace("e tug", "g tug")
+            + D.replace("d tug", "h tug").replace("e tug", "i tug"));
+        int[] one = Due.image(six);
+        changed(six, one, true, 4, 6, 5, 1);
+        changed(six, one, false, 4, 7, 5, 1);
+        changed(six, one, false, 4, 255, 5, 1);
+        changed(six, one, true, 6, 6);
+        changed(six, one, false, 6, 7);
+        changed(six, one, false, 6, 255);
         int[] unsealed = image.clone();
         unsealed[27]++;
         Due.tape(x, unsealed);
@@ -413,6 +467,8 @@ public final class HeardTest {
     public static void main(String[] args) {
         hear();
         pulled();
+        oneBoy();
+        twelve();
         heardStays();
         cut();
         walk();

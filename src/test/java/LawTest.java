@@ -79,6 +79,16 @@ public final class LawTest {
         holds("all or all and not all", true);
         holds("[all or all] and not all", false);
         holds("not all and not all or all", true);
+        holds("not all and all", false);
+        holds("all and not all", false);
+        holds("not all and all and all", false);
+        holds("all and not all and all", false);
+        holds("all or not all", true);
+        holds("not all or all", true);
+        holds("1<2 and 2>1 and not 1=2", true);
+        holds("not 1<2", false);
+        holds("not 2>1", false);
+        holds("not 2=2", false);
         holds("not all or not all", false);
         holds("not [all and not all]", true);
         holds("not all or not not all", true);

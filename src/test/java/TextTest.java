@@ -89,9 +89,12 @@ public final class TextTest {
         Due.is("all stays: acts", x.has(9), 3);
         Due.is("all stays: awake", x.boy(0, 6), 0);
         Due.is("the tape has gone", x.end(1), false);
+        Due.is("nothing is enough", x.end(0), true);
+        Due.hear(x, 0, 1, 0);
+        Due.is("a's like c's", x.pulled(0, 0), 500);
         int seed = x.has(11);
-        Due.tape(x, boys(2));
-        Due.is("dorm again", x.dorm(), 2);
+        Due.tape(x, boys(2) + dreams(1));
+        Due.is("dorm again", x.dorm(), 3);
         Due.is("no fault", x.fault(0), 0);
         Due.is("no place", x.fault(1), -1);
         Due.is("minute 0", x.has(4), 0);
@@ -102,6 +105,65 @@ public final class TextTest {
         Due.is("undo", x.undo(), false);
         Due.is("nothing heard", x.pulled(0, -1), -1);
         Due.is("refused dorms", x.status(1), 1);
+    }
+
+    // What an earlier text told is gone, however often texts come.
+    private static void dormAfterDorm() {
+        SleepRope x = new SleepRope();
+        String much = boys(5) + "boy m" + BOY + " snores ghost;" + dreams(4) + "slack 9 at 1;deep 1 when all;pass 2 when all;";
+        String less = boys(1) + "boy m" + BOY + ";boy n" + BOY + ";dream d" + DREAM + ";pass 7 when place=0;";
+        for (int k = 0; k < 3; k++) {
+            Due.tape(x, much);
+            Due.is("much", x.dorm(), 13);
+            Due.is("deep of much", x.law(0, 50, false), 1);
+            Due.tape(x, less);
+            Due.is("less", x.dorm(), 5);
+            Due.is("boys", x.has(0), 3);
+            Due.is("dreams", x.has(1), 1);
+            Due.is("laws", x.has(2), 1);
+            Due.is("no marks", x.boy(1, 4), 0);
+            Due.is("no slack", x.knot(1, 1), 0);
+            Due.is("no law of deep", x.law(0, 50, false), 5);
+            Due.is("a law of pass", x.law(0, 50, true), 7);
+            Due.is("and else", x.law(1, 50, true), 45);
+            Due.tape(x, "boy z" + BOY + ";slack 3 at 1;deep 9 when all;dream q" + DREAM);
+            Due.is("refused", x.dorm(), -1);
+            Due.is("slack stays", x.knot(1, 1), 0);
+            Due.is("depth stays", x.law(0, 50, false), 5);
+        }
+        Due.tape(x, "");
+        Due.is("none", x.dorm(), 0);
+        Due.is("no boys", x.has(0), 0);
+        Due.is("no dreams", x.has(1), 0);
+        Due.is("no laws", x.has(2), 0);
+    }
+
+    private static void longTexts() {
+        SleepRope x = new SleepRope();
+        String law = "deep " + times(791, "1+") + "1 when all;";
+        Due.is("a text of 1598 bytes", law.length(), 1598);
+        Due.tape(x, law.substring(0, 1596) + ";");
+        Due.is("cut off", x.fault(0) + x.dorm(), -1);
+        Due.tape(x, law + "  ");
+        Due.is("1600 bytes", x.dorm(), 1);
+        Due.tape(x, law + "bo");
+        Due.is("1600 bytes, the last word no STATEMENT", x.dorm(), -1);
+        Due.is("at its first byte", x.fault(1), 1598);
+        Due.tape(x, law.replace(";", "   "));
+        Due.is("1600 bytes, without an end", x.dorm(), -1);
+        Due.is("at the text's length", x.fault(1), 1600);
+        Due.tape(x, times(1600, ";"));
+        Due.is("1600 signs", x.dorm(), -1);
+        Due.tape(x, "boy a" + BOY + ";deep " + times(770, "1+") + "1 when all;");
+        Due.is("long sums", x.dorm(), 2);
+        Due.is("771", x.law(0, 5, false), 771);
+        Due.tape(x, "boy a" + BOY + ";deep 3 when " + times(240, "1=1 or ") + "1=2;");
+        Due.is("long tests", x.dorm() == 2 ? x.law(0, 5, false) : -1, -1);
+        Due.tape(x, "boy a" + BOY + ";deep 3 when " + times(200, "1=1and ") + "1=2;");
+        Due.is("a blank it needs", x.dorm(), -1);
+        Due.tape(x, "boy a" + BOY + ";deep 3 when " + times(190, "1=1 and ") + "1=1;");
+        Due.is("long tests", x.dorm(), 2);
+        Due.is("all hold", x.law(0, 5, false), 3);
     }
 
     private static void letters() {
@@ -292,6 +354,8 @@ public final class TextTest {
         aNewObject();
         feedAndEnd();
         dormAndFault();
+        dormAfterDorm();
+        longTexts();
         letters();
         wordsAndBlanks();
         names();

@@ -66,6 +66,11 @@ public final class WouldBeTest {
         Due.is("b wakes ahead", x.least(3, 0), -1);
         x.wake(3, true);
         Due.is("one awake", x.least(0, 3), -1);
+        Due.is("place -1", x.least(0, -1), -1);
+        Due.is("from 4", x.least(4, 0), -1);
+        SleepRope z = Due.dorm("boy a weight 1 depth 1 odds 1 pulls 0;boy b weight 1 depth 1 odds 1 pulls 0;"
+            + "deep 0-5 when force<2;");
+        Due.is("1 wakes", z.least(0, 1), 1);
         SleepRope y = Due.dorm("boy a weight 1 depth 1 odds 1 pulls 0;boy b weight 1 depth 1 odds 1 pulls 0;"
             + "deep 9998 when all;");
         Due.is("9999 wakes", y.least(0, 1), 9999);
@@ -125,6 +130,58 @@ public final class WouldBeTest {
         Due.is("more than 6", Due.dorm(seven.toString()).best(-1), -1);
         Due.is("7 by exchanges", Due.dorm(seven.toString()).exchange(-1), 0);
         Due.is("two of 7", Due.dorm(seven.toString()).two(0), 0);
+    }
+
+    private static void oneBoy() {
+        SleepRope x = Due.dorm("boy a weight 1 depth 8 odds 10 pulls 0;dream d tug 12 lasts 1 passes 1 odds 3;");
+        Due.is("best of one", x.best(-1), 0);
+        Due.is("the one", x.best(0), 0);
+        Due.is("no other", x.best(1), -1);
+        Due.is("exchange of one", x.exchange(-1), 0);
+        Due.is("none", x.exchange(20), 0);
+        Due.is("he", x.exchange(0), 0);
+        Due.is("not", x.exchange(1), -1);
+        Due.is("lay", x.lay(), 0);
+        Due.is("bad", x.bad(), 0);
+    }
+
+    // Each pulls 20 and wakes all up to a Slack of 20; who lies first and last wakes nobody, the others all differ.
+    private static void bestOfSix() {
+        StringBuilder s = new StringBuilder("dream d tug 9 lasts 1 passes 1 odds 1;pass 0 when all;deep 0 when place=0 or place=5;"
+            + "deep 999 when all;");
+        int[] odds = {7, 3, 9, 4, 8, 5};
+        for (int i = 0; i < 6; i++) {
+            s.append("boy ").append((char) ('p' + i)).append(" weight 1 depth 5 odds ").append(odds[i])
+                .append(" pulls 0;");
+        }
+        SleepRope x = Due.dorm(s.toString());
+        // Those in 1 and 4 wake one each: b (3) and d (4) must lie there; the others by numbers.
+        int[] best = {0, 1, 2, 4, 3, 5};
+        Due.is("3 and 4", x.best(-1), 7);
+        for (int k = 0; k < 6; k++) {
+            Due.is("best of six " + k, x.best(k), best[k]);
+        }
+        x.swap(0, 5);
+        x.swap(1, 3);
+        for (int k = 0; k < 6; k++) {
+            Due.is("from whatever order " + k, x.best(k), best[k]);
+        }
+        x.tie(4, false);
+        Due.is("knots as they are", x.best(-1), 3);
+        Due.is("b alone", x.best(1), 1);
+        Due.is("then by numbers", x.best(3), 3);
+        // By EXCHANGES, from f d c b e a on: d, in 1, and b, whom it is best to bring there.
+        Due.is("an exchange", x.exchange(20), 1);
+        Due.is("b in 1", x.exchange(1), 1);
+        Due.is("d in 3", x.exchange(3), 3);
+        x.undo();
+        Due.is("two wake one each", x.bad(), 4 + 8);
+        Due.is("lay at once", x.lay(), 1);
+        Due.is("least of all", x.bad(), 7);
+        int[] laid = {5, 3, 2, 4, 1, 0};
+        for (int k = 0; k < 6; k++) {
+            Due.is("laid " + k, x.at(k), laid[k]);
+        }
     }
 
     private static void exchanges() {
@@ -188,6 +245,13 @@ public final class WouldBeTest {
         // c, a, b: not c, who lies in place 0; a alone is the least.
         Due.is("not the one in place 0", y.two(1), 1);
         Due.is("one boy", Due.dorm("boy a weight 1 depth 1 odds 1 pulls 0;").two(0), -1);
+        SleepRope both = Due.dorm("boy a weight 1 depth 1 odds 1 pulls 0;boy b weight 1 depth 1 odds 1 pulls 0;"
+            + "dream d tug 9 lasts 1 passes 1 odds 1;");
+        Due.is("two boys wake each other", both.bad(), 2);
+        Due.is("apart they don't", both.two(0), 0);
+        Due.is("b on the second", both.two(1), 2);
+        both.swap(0, 1);
+        Due.is("a on the second", both.two(1), 1);
         Due.is("without boys", new SleepRope().two(0), -1);
         StringBuilder nine = new StringBuilder();
         for (int i = 0; i < 9; i++) {
@@ -215,6 +279,8 @@ public final class WouldBeTest {
         least();
         badness();
         best();
+        oneBoy();
+        bestOfSix();
         exchanges();
         firstOfLikeExchanges();
         two();
