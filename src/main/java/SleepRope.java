@@ -1648,7 +1648,7 @@ public final class SleepRope {
         }
     }
 
-    /** What a TUG does, PLACE by PLACE, without doing it: no BOY is met twice by it, so nothing of it changes its way. */
+    /** What a TUG would do, PLACE by PLACE: it meets no BOY twice, so what it does to one does not change its way. */
     private static final class Tug {
         final int[] came = new int[BOYS];
         // Bits by PLACES.
