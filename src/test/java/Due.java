@@ -1,5 +1,10 @@
+import java.util.Arrays;
+import java.util.function.BooleanSupplier;
+import java.util.function.IntSupplier;
+
 /** What the tests share: it counts answers that are not due, and puts texts on a tape. */
 final class Due {
+    private static final int KINDS_REFUSED = 6;
     private static int asked = 0;
     private static int wrong = 0;
 
@@ -65,6 +70,55 @@ final class Due {
         is("FAULT of " + text, x.fault(0), fault);
         is("its place in " + text, x.fault(1), place);
         is("refused " + text, x.status(1), 1);
+    }
+
+    /** A call that is refused: it answers NONE, and status(kind), it alone, is one more. */
+    static void refused(SleepRope x, int kind, String what, IntSupplier call) {
+        int[] due = refusals(x);
+        due[kind]++;
+        is(what, call.getAsInt(), SleepRope.NONE);
+        is("what was refused behind " + what, Arrays.equals(refusals(x), due), true);
+    }
+
+    /** The same of a call that answers false. */
+    static void refused(SleepRope x, int kind, String what, BooleanSupplier call) {
+        refused(x, kind, what, () -> call.getAsBoolean() ? 1 : SleepRope.NONE);
+    }
+
+    private static int[] refusals(SleepRope x) {
+        int[] counts = new int[KINDS_REFUSED];
+        for (int kind = 0; kind < KINDS_REFUSED; kind++) {
+            counts[kind] = x.status(kind);
+        }
+        return counts;
+    }
+
+    /** No call so far was refused: what can't be answers NONE, but is counted nowhere. */
+    static void nothingRefused(SleepRope x) {
+        is("nothing was refused", Arrays.equals(refusals(x), new int[KINDS_REFUSED]), true);
+    }
+
+    /** All that an ACT may change, as far as it can be seen (10 calls a BOY, 12 others). */
+    static int[] seen(SleepRope x) {
+        int boys = x.has(0);
+        int[] seen = new int[11 + 10 * boys];
+        int count = 0;
+        for (int what = 1; what <= 11; what++) {
+            seen[count++] = x.has(what);
+        }
+        for (int boy = 0; boy < boys; boy++) {
+            for (int what = 5; what <= 12; what++) {
+                seen[count++] = x.boy(boy, what);
+            }
+            seen[count++] = x.knot(boy, 0);
+            seen[count++] = x.knot(boy, 1);
+        }
+        return seen;
+    }
+
+    /** All is as it was seen. */
+    static void stays(String what, SleepRope x, int[] seen) {
+        is("all stays behind " + what, Arrays.equals(seen(x), seen), true);
     }
 
     /** Puts HEARD forces on the tape and tells them. */

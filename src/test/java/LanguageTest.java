@@ -1,4 +1,7 @@
 import java.io.IOException;
+import java.lang.reflect.Field;
+import java.lang.reflect.Method;
+import java.lang.reflect.Modifier;
 import java.nio.file.Files;
 import java.nio.file.Path;
 import java.util.List;
@@ -49,7 +52,29 @@ public final class LanguageTest {
                 bare), 1);
         }
         methodsAreShort(source);
+        nothingElseIsSeen();
         Due.end();
+    }
+
+    // Rule 1, of the compiled class: all that is not of the document's face is private, each class inside is static.
+    private static void nothingElseIsSeen() {
+        Class<?> it = SleepRope.class;
+        Due.is("public and final", it.getModifiers(), Modifier.PUBLIC | Modifier.FINAL);
+        for (Method m : it.getDeclaredMethods()) {
+            boolean isFace = FACE.contains(m.getName());
+            Due.is(m.getName(), m.getModifiers() & (Modifier.PUBLIC | Modifier.PROTECTED | Modifier.PRIVATE | Modifier.STATIC),
+                isFace ? Modifier.PUBLIC : m.getModifiers() & Modifier.STATIC | Modifier.PRIVATE);
+        }
+        for (Field f : it.getDeclaredFields()) {
+            boolean isFace = f.getName().equals("NONE");
+            Due.is(f.getName(), f.getModifiers() & (Modifier.PUBLIC | Modifier.PROTECTED | Modifier.PRIVATE),
+                isFace ? Modifier.PUBLIC : Modifier.PRIVATE);
+        }
+        Due.is("constructors", it.getDeclaredConstructors().length, 1);
+        for (Class<?> inside : it.getDeclaredClasses()) {
+            Due.is(inside.getName(), Modifier.isStatic(inside.getModifiers()), true);
+            Due.is("fields of " + inside.getName(), inside.getDeclaredFields().length <= 20, true);
+        }
     }
 
     // A method begins with a head that ends in ") {" and ends with a brace that stands as far in.
