@@ -157,6 +157,7 @@ public final class TextTest {
         Due.tape(x, "boy a" + BOY + ";deep " + times(770, "1+") + "1 when all;");
         Due.is("long sums", x.dorm(), 2);
         Due.is("771", x.law(0, 5, false), 771);
+        x = new SleepRope();
         Due.tape(x, "boy a" + BOY + ";deep 3 when " + times(240, "1=1 or ") + "1=2;");
         Due.is("long tests", x.dorm() == 2 ? x.law(0, 5, false) : -1, -1);
         Due.tape(x, "boy a" + BOY + ";deep 3 when " + times(200, "1=1and ") + "1=2;");
