@@ -757,7 +757,7 @@ public final class EdgeActsTest {
     // The last of twelve BOYS, the last KNOT: what an ACT does to them is undone, too.
     private static void actsOfTheLastOfTwelve() {
         for (int act = 0; act < 8; act++) {
-            SleepRope x = Due.dorm(TWELVE + Texts.dream("d", 999, 9, 999, 1) + Texts.dream("e", 500, 9, 999, 1)
+            SleepRope x = Due.dorm(TWELVE + Texts.dream("d", 500, 9, 500, 1) + Texts.dream("e", 999, 9, 999, 1)
                 + Texts.slack(1, 10));
             x.slack(10, 0);
             x.dreams(10, 0);

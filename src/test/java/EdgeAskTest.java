@@ -214,6 +214,10 @@ public final class EdgeAskTest {
         Due.is("by hand", x.bad(), 0);
         x.swap(11, 10);
         Due.is("and one too far", x.bad(), 14);
+        SleepRope y = oneWhoWakes(12, 0, "1=2");
+        y.swap(0, 11);
+        Due.is("from the last PLACE", y.bad(), 7);
+        Due.is("nowhere is it less", y.exchange(-1), 7);
     }
 
     // "the two PLACES (by the lesser, then the greater) whose exchange makes BADNESS least ..; of like ones the first."
