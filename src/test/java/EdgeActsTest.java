@@ -869,6 +869,44 @@ public final class EdgeActsTest {
         Due.is("undo", x.undo(), true);
     }
 
+    // "beside: how many of the BOYS in PLACES next to his, to whom he is tied, snore"; "MARKS snores, ghost": by the MARK,
+    // be he who bears it asleep or awake, with a DREAM or none, a ghost, or one whom the TUG has just gone through.
+    private static void whoSnores() {
+        String snorers = Texts.boy("a", 1, 999, 0, 0, "snores") + Texts.boy("b", 1, 999, 0, 0, "")
+            + Texts.boy("c", 1, 999, 0, 0, "ghost snores");
+        SleepRope x = Due.dorm(snorers + Texts.dream("d", 9, 60, 99, 1) + "deep 10*beside+1 when all;");
+        Due.is("both asleep", x.law(1, 9, false), 21);
+        x.wake(0, true);
+        Due.is("the one below awake", x.law(1, 9, false), 21);
+        x.wake(2, true);
+        Due.is("both awake", x.law(1, 9, false), 21);
+        Due.is("a TUG below it", x.wakes(0, 21), 0);
+        Due.is("a TUG above it", x.wakes(0, 22), 2);
+        x.wake(0, false);
+        Due.is("he begins a DREAM", x.dreams(0, 0), 0);
+        Due.is("one with a DREAM", x.law(1, 9, false), 21);
+        x.tie(0, false);
+        Due.is("not tied to the one below", x.law(1, 9, false), 11);
+        x.tie(1, false);
+        Due.is("tied to none", x.law(1, 9, false), 1);
+        x.tie(0, true);
+        Due.is("not tied to the one above", x.law(1, 9, false), 11);
+        x.swap(0, 1);
+        Due.is("the MARK goes with the BOY", x.law(0, 9, false), 11);
+        Due.is("and his own is none beside him", x.law(1, 9, false), 1);
+    }
+
+    // The same in one MINUTE: he who snores wakes by the TUG that comes to the next one.
+    private static void whoSnoresAndWakes() {
+        SleepRope x = Due.dorm(Texts.boy("a", 1, 999, 0, 0, "") + Texts.boy("b", 1, 999, 0, 0, "")
+            + Texts.boy("c", 1, 5, 0, 0, "snores") + Texts.boy("e", 1, 999, 0, 0, "") + Texts.dream("d", 9, 60, 99, 1)
+            + "deep 10*beside+1 when place=1;");
+        Due.is("c wakes", x.dreams(3, 0), 1);
+        Due.is("he is awake", x.boy(2, 6), 0);
+        Due.is("b sleeps by him as deep as before", x.dreams(0, 0), 0);
+        Due.is("b is asleep", x.boy(1, 6), 1);
+    }
+
     public static void main(String[] args) {
         hasAtItsBounds();
         noneSuch();
@@ -904,6 +942,8 @@ public final class EdgeActsTest {
         toldTugsComeBack();
         whatIsNotUndone();
         seedAtItsBounds();
+        whoSnores();
+        whoSnoresAndWakes();
         allItsCalls();
         Due.end();
     }
